@@ -83,7 +83,7 @@ public final class OddTouch {
             return -10 - reader.fault;
         }
         town.copyFrom(reader.told);
-        now.begin();
+        now.settleIn();
         past.forget();
         return town.lines;
     }
@@ -1130,7 +1130,7 @@ public final class OddTouch {
         }
 
         /** Takes the first token of a line, if one more of its sort may come. */
-        private void begin(int many, int most) {
+        private void beginLine(int many, int most) {
             if (many >= most) {
                 fail(TOO_MANY);
             } else {
@@ -1139,7 +1139,7 @@ public final class OddTouch {
         }
 
         private void readTouch() {
-            begin(told.touches, TOUCHES_MOST);
+            beginLine(told.touches, TOUCHES_MOST);
             int p = takeNumber(0, told.places - 1);
             int barred = p == NONE ? 0 : told.touch[p] | 1 << p;
             int q = takeNumberBut(0, told.places - 1, barred);
@@ -1150,7 +1150,7 @@ public final class OddTouch {
         }
 
         private void readThing() {
-            begin(told.things, THINGS_MOST);
+            beginLine(told.things, THINGS_MOST);
             int home = takeNumberBut(0, told.places - 1, told.homes());
             needWord("count");
             int count = takeNumber(0, COUNT_MOST);
@@ -1169,7 +1169,7 @@ public final class OddTouch {
         }
 
         private void readEvent() {
-            begin(told.events, EVENTS_MOST);
+            beginLine(told.events, EVENTS_MOST);
             int minute = takeNumber(0, 999);
             needWord("thing");
             int subject = takeNumber(0, told.things - 1);
@@ -1345,7 +1345,7 @@ public final class OddTouch {
             this.town = town;
         }
 
-        void begin() {
+        void settleIn() {
             for (int t = 0; t < town.things; t++) {
                 place[t] = town.home[t];
                 count[t] = town.firstCount[t];
@@ -1647,12 +1647,12 @@ public final class OddTouch {
         }
 
         int countAll() {
-            return begin() ? waysFrom(0) : 0;
+            return clearBoard() ? waysFrom(0) : 0;
         }
 
         /** Whether there is a k-th one; its places are in tried. */
         boolean find(int k) {
-            boolean found = begin();
+            boolean found = clearBoard();
             int ahead = k;
             for (int t = 0; t < town.things && found; t++) {
                 found = false;
@@ -1669,7 +1669,7 @@ public final class OddTouch {
 
         /** Whether there is one by ways that there are; its places are in nearest. */
         boolean findNearest() {
-            boolean any = begin();
+            boolean any = clearBoard();
             nearestMinutes = MANY;
             for (int most = 0; most <= town.things && any; most++) {
                 seek(0, most, 0);
@@ -1682,7 +1682,7 @@ public final class OddTouch {
         }
 
         /** Bars what those that stay bar; false: somebody is left without a place. */
-        private boolean begin() {
+        private boolean clearBoard() {
             easy = 0;
             lastFussy = NONE;
             boolean room = true;
