@@ -930,7 +930,7 @@ public final class OddTouch {
             return touchesWithin(first) || touchesWithin(second) ? NONE : first;
         }
 
-        private boolean touchesWithin(int set) {
+        boolean touchesWithin(int set) {
             for (int p = 0; p < places; p++) {
                 if (isIn(set, p) && (touch[p] & set) != 0) {
                     return true;
@@ -1692,13 +1692,23 @@ public final class OddTouch {
                     may[t] &= u != t && town.isFixed(u) ? ~barredBy(u, now.place[u], t) : -1;
                 }
                 room &= may[t] != 0;
-                if (!town.isFixed(t) && now.openFoes[t] == 0 && now.wallFoes[t] == 0) {
-                    easy |= 1 << t;
-                } else {
+                if (town.isFixed(t) || mayClashSomewhere(t)) {
                     lastFussy = t;
+                } else {
+                    easy |= 1 << t;
                 }
             }
             return room;
+        }
+
+        private boolean mayClashSomewhere(int t) {
+            for (int p = 0; p < town.places; p++) {
+                if (now.wallFoes[t] != 0 && town.walls[p] != 0
+                        || now.openFoes[t] != 0 && town.walls[p] != town.touch[p]) {
+                    return true;
+                }
+            }
+            return false;
         }
 
         /** Places that u can't take while t lies at p. */
@@ -1724,10 +1734,14 @@ public final class OddTouch {
 
         private int waysFrom(int t) {
             int easyLeft = Integer.bitCount(easy >> t);
-            int ways = fussyWays(t);
-            // The easy ones come last: each has one place less to lie at than the one ahead of it.
-            for (int i = 0; i < easyLeft; i++) {
-                ways *= town.places - town.things + easyLeft - i;
+            return fussyWays(t) * orders(town.places - town.things + easyLeft, easyLeft);
+        }
+
+        /** How many ways so many things have to lie at so many places. */
+        private static int orders(int places, int things) {
+            int ways = 1;
+            for (int i = 0; i < things; i++) {
+                ways *= places - i;
             }
             return ways;
         }
@@ -1739,6 +1753,11 @@ public final class OddTouch {
             int mine = may[t * THINGS_MOST + t];
             if (t == lastFussy) {
                 return Integer.bitCount(mine);
+            }
+            int quiet = quietPlaces(t);
+            if (quiet != NONE) {
+                int fussyLeft = town.things - t - Integer.bitCount(easy >> t);
+                return orders(Integer.bitCount(quiet), fussyLeft);
             }
             if (isIn(easy, t)) {
                 skip(t);
@@ -1753,14 +1772,36 @@ public final class OddTouch {
             return ways;
         }
 
+        /** Places that all fussy ones from t on may take alike, no two touching; NONE: not so. */
+        private int quietPlaces(int t) {
+            int quiet = NONE;
+            for (int u = t; u < town.things; u++) {
+                int mine = may[t * THINGS_MOST + u];
+                if (!isIn(easy, u) && quiet != NONE && mine != quiet) {
+                    return NONE;
+                }
+                quiet = isIn(easy, u) ? quiet : mine;
+            }
+            return quiet == NONE || town.touchesWithin(quiet) ? NONE : quiet;
+        }
+
         private void skip(int t) {
             for (int u = t + 1; u < town.things; u++) {
                 may[(t + 1) * THINGS_MOST + u] = may[t * THINGS_MOST + u];
             }
         }
 
+        /** How many from t on can't lie where they are now. */
+        private int driven(int t) {
+            int many = 0;
+            for (int u = t; u < town.things; u++) {
+                many += isIn(may[t * THINGS_MOST + u], now.place[u]) ? 0 : 1;
+            }
+            return many;
+        }
+
         private void seek(int t, int spare, int minutes) {
-            if (minutes >= nearestMinutes) {
+            if (minutes >= nearestMinutes || driven(t) > spare) {
                 return;
             }
             if (t >= town.things) {
