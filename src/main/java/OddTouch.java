@@ -1002,6 +1002,7 @@ public final class OddTouch {
             } else if (token != END) {
                 int sort = token;
                 while (next < length && sortOf(text[next]) == sort) {
+                    // Of a word, or of digits that are too many, nobody asks for the value.
                     value = 10 * value + text[next] - '0';
                     next++;
                 }

@@ -152,17 +152,23 @@ final class OracleTest {
             "law not not not not not not [1=1];", "places 3;", " event ", ";", " and ", "zero odd;"};
         for (int i = 1 + below(3); i > 0 && s.length() > 0; i--) {
             int at = below(s.length());
-            switch (below(5)) {
+            switch (below(6)) {
                 case 0:
-                    s.setCharAt(at, signs.charAt(below(signs.length())));
+                    while (!Character.isDigit(s.charAt(at)) && at > 0) {
+                        at--;
+                    }
+                    s.setCharAt(at, (char) ('0' + below(10)));
                     break;
                 case 1:
-                    s.deleteCharAt(at);
+                    s.setCharAt(at, signs.charAt(below(signs.length())));
                     break;
                 case 2:
-                    s.insert(at, words[below(words.length)]);
+                    s.deleteCharAt(at);
                     break;
                 case 3:
+                    s.insert(at, words[below(words.length)]);
+                    break;
+                case 4:
                     s.insert(at, signs.charAt(below(signs.length())));
                     break;
                 default:

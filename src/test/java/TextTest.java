@@ -110,6 +110,8 @@ final class TextTest {
         bad("places 3;touch 0 1;touch 1 0 wall;", 3, 27);
         bad("places 3;thing 3 count 1;", 3, 15);
         bad("places 3;thing 1 count 1;thing 1 count 1;", 3, 31);
+        bad("places 3;thing 1 count 1;thing 2 count 1;thing 1 count 1;", 3, 47);
+        bad("places 3;touch 0 1;touch 2 0;touch 0 1;", 3, 37);
         bad("places 3;thing 1 count 100;", 3, 23);
         bad("places 3;thing 1 count 1 kind 10;", 3, 30);
         bad("places 3;thing 1 count 1 slow 0;", 3, 30);
