@@ -1,3 +1,8 @@
+import java.io.IOException;
+import java.io.UncheckedIOException;
+import java.nio.file.Files;
+import java.nio.file.Path;
+
 /** What all tests use: texts onto the tape, answers against what is due. */
 final class Kit {
 
@@ -5,8 +10,24 @@ final class Kit {
         long answer();
     }
 
+    /** Makes the same object each time. */
+    interface Maker {
+        OddTouch make();
+    }
+
+    interface Use {
+        long on(OddTouch x);
+    }
+
+    static final String NO_SUCH = "NoSuchElementException";
+    static final String STATE = "IllegalStateException";
+    static final String ARGUMENT = "IllegalArgumentException";
+    static final String INDEX = "IndexOutOfBoundsException";
+
     private static int wrong;
     private static int checked;
+    private static String document;
+    private static String quoted = "";
 
     private Kit() {
     }
@@ -38,19 +59,29 @@ final class Kit {
         return x;
     }
 
-    static void due(String label, long got, long want) {
-        checked++;
-        if (got != want) {
-            wrong++;
-            System.out.println(label + ": answered " + got + ", due is " + want);
+    /** What is checked from here on is for these words, which must stand in the document. */
+    static void sentence(String words) {
+        if (document == null) {
+            try {
+                document = Files.readString(Path.of("../shared/DOC.md")).replaceAll("\\s+", " ");
+            } catch (IOException e) {
+                throw new UncheckedIOException(e);
+            }
         }
+        quoted = "";
+        due("the document says: " + words, document.contains(words), true);
+        quoted = "\"" + words + "\": ";
+    }
+
+    static void due(String label, long got, long want) {
+        due(label, Long.toString(got), Long.toString(want));
     }
 
     static void due(String label, String got, String want) {
         checked++;
         if (!got.equals(want)) {
             wrong++;
-            System.out.println(label + ": answered " + got + ", due is " + want);
+            System.out.println(quoted + label + ": answered " + got + ", due is " + want);
         }
     }
 
@@ -74,13 +105,107 @@ final class Kit {
         due(label + ", the state then", stateOf(x), before);
     }
 
-    /** All that can be asked without changing anything. */
+    /** The call answers or throws as due, and what comes then is as if it had never come. */
+    static void refused(Maker maker, String label, Use call, String want) {
+        OddTouch x = maker.make();
+        due(label, outcome(() -> call.on(x)), want);
+        due(label + ", what comes then", wholeOf(x), wholeOf(maker.make()));
+    }
+
+    /** As refused: for calls that only ask. */
+    static void asked(Maker maker, String label, Use call, long want) {
+        refused(maker, label, call, Long.toString(want));
+    }
+
+    /** All that later calls can find out; the object is used up by it. */
+    static String wholeOf(OddTouch x) {
+        String outside = x.count(8) + " " + x.fault(0) + " " + x.fault(1);
+        String inside = restOf(x);
+        int lines = x.town(x.count(8));
+        return outside + "|" + inside + "|tape " + lines + " " + stateOf(x);
+    }
+
+    /** As wholeOf, but for the tape and the fault. */
+    static String restOf(OddTouch x) {
+        StringBuilder all = new StringBuilder(sceneOf(x)).append(lawOf(x));
+        for (int i = 0; i < 4; i++) {
+            all.append("|tray ").append(i).append(trayOf(x, i));
+        }
+        all.append("|deeds").append(deedsOf(x));
+        for (int i = 0; i < 3; i++) {
+            int image = i;
+            all.append("|image ").append(i).append(' ');
+            all.append(outcome(() -> restoreOf(x, image))).append(' ');
+            all.append(sceneOf(x)).append(lawOf(x)).append(deedsOf(x));
+        }
+        return all.toString();
+    }
+
+    private static String lawOf(OddTouch x) {
+        StringBuilder all = new StringBuilder("|law ");
+        for (int t = 0; t < x.count(2); t++) {
+            for (int u = t + 1; u < x.count(2); u++) {
+                all.append(x.clash(t, u, false) ? 1 : 0).append(x.clash(t, u, true) ? 1 : 0);
+            }
+        }
+        return all.toString();
+    }
+
+    private static String trayOf(OddTouch x, int tray) {
+        StringBuilder all = new StringBuilder();
+        for (int i = 0; i < 4; i++) {
+            int what = i;
+            all.append(' ').append(outcome(() -> x.judge(tray, what)));
+        }
+        all.append(' ').append(outcome(() -> x.goats(tray, false)));
+        all.append(' ').append(outcome(() -> x.seats(tray, 3, 10)));
+        all.append(' ').append(outcome(() -> x.seen(tray)));
+        all.append(' ').append(outcome(() -> x.sure(tray, 0)));
+        for (int place : new int[] {0, 1, 2, 3, 4, 29, 30}) {
+            all.append(' ').append(outcome(() -> x.write(tray, place, 0x123456789abcdef0L)));
+        }
+        return all.toString();
+    }
+
+    /** Undoes all deeds, one by one. */
+    private static String deedsOf(OddTouch x) {
+        StringBuilder all = new StringBuilder();
+        for (int i = 0; i < 12 && x.count(7) > 0; i++) {
+            all.append(" back ").append(x.undo(1)).append(':');
+            for (int t = 0; t < x.count(2); t++) {
+                all.append(' ').append(x.thing(t, 0)).append(' ').append(x.thing(t, 1));
+            }
+            all.append(' ').append(x.count(5)).append(' ').append(x.count(6));
+        }
+        return all.toString();
+    }
+
+    static long imageOf(OddTouch x, int i) {
+        x.image(i);
+        return 0;
+    }
+
+    static long restoreOf(OddTouch x, int i) {
+        x.restore(i);
+        return 0;
+    }
+
+    static long layTray(OddTouch x, int tray, int sort, int many) {
+        x.tray(tray, sort, many);
+        return 0;
+    }
+
+    /** All that can be asked without changing anything, but for trays, deeds and images. */
     static String stateOf(OddTouch x) {
+        return x.count(8) + " " + x.fault(0) + " " + x.fault(1) + " " + sceneOf(x);
+    }
+
+    /** As stateOf, but for the tape and the fault. */
+    static String sceneOf(OddTouch x) {
         StringBuilder all = new StringBuilder();
         for (int what = -1; what <= 11; what++) {
-            all.append(x.count(what)).append(' ');
+            all.append(what == 8 ? "" : x.count(what) + " ");
         }
-        all.append(x.fault(0)).append(' ').append(x.fault(1)).append(' ');
         for (int t = 0; t < x.count(2); t++) {
             for (int what = 0; what <= 7; what++) {
                 all.append(x.thing(t, what)).append(' ');

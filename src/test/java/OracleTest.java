@@ -198,10 +198,10 @@ final class OracleTest {
 
     private String stateOfOracle() {
         StringBuilder all = new StringBuilder();
+        all.append(o.count(8) + " " + o.fault(0) + " " + o.fault(1) + " ");
         for (int what = -1; what <= 11; what++) {
-            all.append(o.count(what)).append(' ');
+            all.append(what == 8 ? "" : o.count(what) + " ");
         }
-        all.append(o.fault(0)).append(' ').append(o.fault(1)).append(' ');
         for (int t = 0; t < o.count(2); t++) {
             for (int what = 0; what <= 7; what++) {
                 all.append(o.thing(t, what)).append(' ');
