@@ -209,6 +209,14 @@ final class BoundsDeedsTest {
         OddTouch unlike = Kit.town("places 1;thing 0 count 99;event 8 thing 0 more 9;event 7 thing 0 less 9;");
         unlike.days(1);
         Kit.due("by minutes", unlike.thing(0, 1), 99);
+        OddTouch three = Kit.town("places 2;touch 0 1;thing 0 count 5;thing 1 count 1;event 600 thing 0 more 4;"
+            + "event 100 thing 0 less 9;event 300 thing 0 more 1;");
+        Kit.due("5 to 100, 0 to 300, 1 to 600, 5", three.days(1), 100 + 300 + 400);
+        Kit.due("5 again", three.thing(0, 1), 5);
+        OddTouch down = Kit.town("places 1;thing 0 count 95;event 900 thing 0 less 3;event 750 thing 0 more 7;"
+            + "event 600 thing 0 less 8;event 450 thing 0 more 9;event 300 thing 0 less 9;event 150 thing 0 more 9;");
+        down.days(1);
+        Kit.due("99 90 99 91 98 95", down.thing(0, 1), 95);
         OddTouch six = Kit.town("places 1;thing 0 count 50;event 5 thing 0 more 9;event 4 thing 0 more 9;"
             + "event 3 thing 0 more 9;event 2 thing 0 more 9;event 1 thing 0 more 9;event 0 thing 0 more 9;");
         six.days(1);
@@ -363,6 +371,9 @@ final class BoundsDeedsTest {
         told(withTray(TOWN, thirty(100)), "the thirtieth", 29, 1, 0, 0);
         told(withTray(TOWN, thirty(5)), "no way", 29, 4, 0, 0);
         told(withTray(TOWN, 2, 100, 200), "the first of two", 1, 1, 2, 1);
+        OddTouch later = withTray(TOWN, 2, -1);
+        later.days(2);
+        told(later, "time from now on", -1, 0, 1002, 1);
         Kit.sentence("NoSuchElementException: no such TRAY (as below); IllegalStateException: it is MISSING "
             + "(as below); IllegalArgumentException: another what.");
         for (int what : new int[] {-1, 4, Integer.MIN_VALUE, Integer.MAX_VALUE}) {

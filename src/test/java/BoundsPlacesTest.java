@@ -52,6 +52,10 @@ final class BoundsPlacesTest {
         ring("touch 0 1;touch 1 2;touch 2 0;touch 2 3;touch 3 0;", 3, 7);
         ring(ringOf(0, 6) + "touch 0 3;", -1, -1);
         ring(ringOf(0, 6) + "touch 0 2;", 3, 7);
+        for (int many = 3; many <= 9; many += 2) {
+            int all = many;
+            Kit.asked(() -> Kit.town("places " + all + ";" + ringOf(0, all)), "all " + many, x -> x.oddRing(0), many);
+        }
     }
 
     private static void ringWhats() {
@@ -112,6 +116,30 @@ final class BoundsPlacesTest {
         for (int i = 0; i < texts.length; i++) {
             String text = texts[i];
             Kit.asked(() -> Kit.town(text), text, x -> x.placings(), want[i]);
+        }
+        String walls = "places 3;touch 0 1 wall;touch 1 2;thing 0 count 1;thing 1 count 1;";
+        Kit.asked(() -> Kit.town(walls + "law wall=0;"), "not through a wall", x -> x.placings(), 4);
+        Kit.asked(() -> Kit.town(walls + "law wall=1;"), "through a wall alone", x -> x.placings(), 4);
+        Kit.asked(() -> Kit.town(walls + "law wall=0;"), "the first", x -> x.placing(0, 1), 2);
+        Kit.asked(() -> Kit.town(walls + "law wall=1;"), "the first, walled", x -> x.placing(0, 1), 1);
+        Kit.Maker mixed = () -> Kit.town("places 4;touch 0 1;touch 1 2;thing 0 count 2;thing 1 count 1;thing 2 count 1;");
+        Kit.asked(mixed, "an even one ahead of two odd ones", x -> x.placings(), 16);
+        int[] first = {0, 1, 3};
+        int[] last = {3, 2, 0};
+        for (int t = 0; t < 3; t++) {
+            int u = t;
+            Kit.asked(mixed, "the first, " + t, x -> x.placing(0, u), first[t]);
+            Kit.asked(mixed, "the last, " + t, x -> x.placing(15, u), last[t]);
+            Kit.asked(mixed, "behind the last, " + t, x -> x.placing(16, u), -1);
+        }
+        Kit.asked(() -> Kit.town("places 4;touch 0 1;thing 0 count 1 stays;thing 1 count 1;thing 2 count 1;"
+            + "thing 3 count 2;"), "two odd ones at two places", x -> x.placings(), 2);
+        OddTouch x = Kit.town(PATH + "thing 0 count 2;thing 1 count 2;");
+        int[] counts = {6, 6, 2, 6, 6, 2};
+        for (int i = 0; i < counts.length; i++) {
+            Kit.due("as the counts are, " + i, x.placings(), counts[i]);
+            x.change(i % 2, 1);
+            x.change(1, i % 3 == 2 ? 1 : 0);
         }
     }
 
@@ -242,6 +270,10 @@ final class BoundsPlacesTest {
         flip(TWO + "thing 0 count 99;thing 1 count 99;law a+b=98*2;", 2, 3);
         flip(TWO + "thing 0 count 0;thing 1 count 0;zero odd;", -1, -1);
         flip(TWO + "thing 0 count 0;thing 1 count 0;zero both;law odda+evena+oddb+evenb<3;", 2, 3);
+        flip(TWO + "thing 0 count 1 kind 1;thing 1 count 1 kind 1;law alike=0;", -1, -1);
+        flip(TWO + "thing 0 count 1 kind 1;thing 1 count 1 kind 2;law alike=0;", 0, 0);
+        flip("places 2;touch 0 1 wall;thing 0 count 1;thing 1 count 1;law wall=1;", 0, 0);
+        flip("places 2;touch 0 1 wall;thing 0 count 1;thing 1 count 1;law wall=0;", -1, -1);
         StringBuilder all = new StringBuilder("places 8;law a>1 and b>1;");
         for (int t = 0; t < 8; t++) {
             all.append(t == 0 ? "" : "touch 0 " + t + ";").append("thing " + t + " count 1 stays;");

@@ -129,6 +129,14 @@ final class BoundsRowsTest {
         best(() -> Kit.town(eight(1)), 255, false, 7, 0, 1, 2, 3, 4, 5, 6, 7);
         best(() -> Kit.town(eight(1)), 255, true, 8, 0, 1, 2, 3, 4, 5, 6, 7);
         best(() -> Kit.town(eight(2)), 128, true, 0, 7);
+        Kit.Maker lead = () -> Kit.town("places 3;thing 0 count 2;thing 1 count 1;thing 2 count 1;");
+        best(lead, 7, false, 0, 1, 0, 2);
+        best(lead, 7, true, 1, 0, 1, 2);
+        OddTouch x = Kit.town(FIVE);
+        int[][] again = {{7, 2}, {3, 1}, {7, 2}, {0, 0}, {7, 2}, {31, 0}, {7, 2}};
+        for (int[] a : again) {
+            Kit.due("one behind the other, " + a[0], x.bestRow(a[0], false, 0), a[1]);
+        }
     }
 
     private static void emptySet() {
@@ -196,6 +204,12 @@ final class BoundsRowsTest {
         table(even, 7, 7, 6, 5, 4, 3, 2, 1);
         table(even, 8, 7, 6, 5, 4, 3, 2, 1, 0);
         table(even, 9, 7, 6, 5, 4, 3, 2, 1, 0);
+        Kit.Maker three = () -> with("places 3;thing 0 count 2;thing 1 count 3;thing 2 count 4;"
+            + "law not a*b=6 and not a*b=12;", 0, 1, 2);
+        table(three, 3, 0, 2);
+        table(three, 4, 0, -1, 1);
+        table(three, 5, 0, -1, 1, -1, 2);
+        table(three, 6, 0, -1, 1, -1, 2);
         table(() -> with("places 2;touch 0 1 wall;thing 0 count 2;thing 1 count 2;law wall=1;", 1, 0), 2, 1);
     }
 
@@ -261,6 +275,10 @@ final class BoundsRowsTest {
         saw(TWO + "law a<99 and b=1;", 1, new int[] {1}, 0);
         saw(TWO + "law a+b=102;", 5, new int[] {-2, -2, -2, -2}, -1, -1, -1, 0);
         saw(TWO + "law a+b=103;", 0, new int[] {-2, -2, -2, -2}, -1, -1, -1, 0);
+        saw("places 2;touch 0 1 wall;thing 0 count 1;thing 1 count 1;law wall=1;", 3, new int[] {-2}, 0);
+        saw("places 2;touch 0 1 wall;thing 0 count 1;thing 1 count 1;law wall=0;", 3, new int[] {-2}, 1);
+        saw("places 2;touch 0 1;thing 0 count 1 kind 1;thing 1 count 1;law alike=0;", 3, new int[] {-2}, 0);
+        saw("places 2;touch 0 1;thing 0 count 1;thing 1 count 1;law alike=0;", 3, new int[] {-2}, 1);
         saw(TWO, 0, new int[] {-2}, 2);
         saw(TWO, 0, new int[] {-2}, Long.MAX_VALUE);
         saw(TWO, 0, new int[] {-2, -2}, 0, 1L << 32);

@@ -17,6 +17,9 @@ final class BoundsTextTest {
         allStays();
         latestFault();
         atMost900();
+        kindsOfLines();
+        truths();
+        sums();
         places();
         touches();
         things();
@@ -126,6 +129,9 @@ final class BoundsTextTest {
 
     private static void howManyBytes() {
         Kit.sentence("IllegalArgumentException: n is below 0 or above what it has.");
+        OddTouch empty = new OddTouch();
+        Kit.due("0 of none", empty.town(0), -12);
+        Kit.due("0 of none, its place", empty.fault(1), 0);
         String text = "places 2;zero odd;  ";
         for (int feeds : new int[] {0, 1, 2, 45}) {
             Kit.Maker maker = () -> fullOf(feeds == 0 ? "" : text, feeds);
@@ -171,8 +177,44 @@ final class BoundsTextTest {
             Kit.due("count(" + what + ")", x.count(what), want[what]);
         }
         Kit.due("nought is even again", x.thing(0, 6) * 10 + x.thing(0, 5), 10);
+        nothingIsLeft();
         Kit.refused(() -> Kit.town("places 1;thing 0 count 0;"), "none can be undone", y -> y.undo(1),
             Kit.ARGUMENT);
+    }
+
+    /** One town behind another, with or without a fault between: as if it were the first one. */
+    private static void nothingIsLeft() {
+        String[] texts = {"places 1;",
+            "places 5;touch 0 1 wall;touch 1 2 wall;touch 2 3;touch 3 4 wall;thing 0 count 0 kind 4 slow 7 stays;"
+            + "thing 1 count 5 stays;thing 4 count 9 kind 4;event 900 thing 2 less 9;event 5 thing 1 more 3;"
+            + "event 800 thing 2 more 1;zero both;law a<b or wall=1;",
+            "places 6;touch 0 1;touch 1 2;touch 3 2;touch 4 3;thing 0 count 0;thing 1 count 5;thing 4 count 95;"
+            + "event 7 thing 2 more 9;event 7 thing 2 less 9;event 3 thing 0 more 2;",
+            "places 3;thing 2 count 0;thing 1 count 0;zero neither;"};
+        for (String first : texts) {
+            for (String second : texts) {
+                for (String between : new String[] {"", second.replace("places", "places 3;zero"), second + "!"}) {
+                    OddTouch x = Kit.town(first);
+                    x.days(3);
+                    x.mend();
+                    x.goWave();
+                    x.drift();
+                    x.placings();
+                    if (!between.isEmpty()) {
+                        Kit.due(between, Kit.tell(x, between) < 0, true);
+                    }
+                    Kit.tell(x, second);
+                    Kit.due(second + " behind " + first, Kit.restOf(x), Kit.restOf(Kit.town(second)));
+                    OddTouch y = Kit.town(first);
+                    Kit.tell(y, between);
+                    Kit.tell(y, second);
+                    OddTouch alone = Kit.town(second);
+                    Kit.due("days of " + second, y.days(2), alone.days(2));
+                    Kit.due("a mending of " + second, y.mending(0), alone.mending(0));
+                    Kit.due("then, " + second, Kit.restOf(y), Kit.restOf(alone));
+                }
+            }
+        }
     }
 
     private static void allStays() {
@@ -213,6 +255,101 @@ final class BoundsTextTest {
         good("places 1;" + "zero odd;".repeat(99), 100);
         good(filledUp("places 1;", 891) + "zero odd;", 2);
         bad(filledUp("places 1;", 899) + "z", 2, 899);
+    }
+
+    private static void kindsOfLines() {
+        Kit.sentence("LINE: touch N N [ wall ] | thing N count N [ kind N ] [ slow N ] [ stays ] | event N thing N "
+            + "more N | event N thing N less N | zero even | zero odd | zero both | zero neither | law TRUTH.");
+        for (int i = 0; i < 8; i++) {
+            good(THING + ((i & 1) == 0 ? "" : " kind 2") + ((i & 2) == 0 ? "" : " slow 3")
+                + ((i & 4) == 0 ? "" : " stays") + ";", 2);
+        }
+        bad(THING + " kind 2 kind 2;", 2, 32);
+        bad(THING + " slow 2 slow 2;", 2, 32);
+        bad(THING + " stays stays;", 2, 31);
+        bad(THING + " wall;", 2, 25);
+        bad("places 3;thing 1;", 2, 16);
+        bad("places 3;touch 0 1 wall wall;", 2, 24);
+        bad("places 3;touch 0 1 stays;", 2, 19);
+        bad("places 3;touch 0;", 2, 16);
+        bad(THING + ";event 5 more 1;", 2, 33);
+        bad(THING + ";event 5 thing 0 1;", 2, 41);
+        bad(THING + ";event 5 thing 0 more 1 less 1;", 2, 48);
+        for (String word : new String[] {"even", "odd", "both", "neither"}) {
+            good("places 3;zero " + word + ";", 2);
+            bad("places 3;zero " + word + word + ";", 2, 14);
+        }
+        bad("places 3;zero 0;", 2, 14);
+        bad("places 3;law;", 2, 12);
+        bad("places 3;wall;", 2, 9);
+    }
+
+    /** A law that says truth of any two counts, or does not. */
+    private static void says(String law, boolean truth) {
+        OddTouch x = new OddTouch();
+        Kit.due(law, Kit.tell(x, "places 2;touch 0 1;thing 0 count 3;thing 1 count 4;law " + law + ";"), 5);
+        Kit.due("the truth of " + law, x.clashes(), truth ? 0 : 1);
+    }
+
+    private static void truths() {
+        Kit.sentence("TRUTH: BOTH { or BOTH }; BOTH: UNIT { and UNIT }; UNIT: not UNIT, [ TRUTH ], or SUM, one of "
+            + "= < >, SUM.");
+        String[][] words = {{"0=1", "1=1"}, {"1<1", "0<1"}, {"1>1", "1>0"}};
+        for (int i = 0; i < 24; i++) {
+            boolean p = (i & 1) != 0;
+            boolean q = (i & 2) != 0;
+            boolean r = (i & 4) != 0;
+            String a = words[i / 8][i & 1];
+            String b = words[(i / 8 + 1) % 3][i >> 1 & 1];
+            String c = words[(i / 8 + 2) % 3][i >> 2 & 1];
+            says(a, p);
+            says("not " + a, !p);
+            says(a + " or " + b + " and " + c, p || q && r);
+            says(a + " and " + b + " or " + c, p && q || r);
+            says("[" + a + " or " + b + "] and " + c, (p || q) && r);
+            says(a + " and [" + b + " or " + c + "]", p && (q || r));
+            says("not " + a + " or " + b, !p || q);
+            says("not " + a + " and " + b, !p && q);
+            says("not [" + a + " and " + b + "] and " + c, !(p && q) && r);
+            says("not not " + a + " and not " + b + " and " + c, p && !q && r);
+        }
+        bad("places 1;law 1=1 or;", 2, 19);
+        bad("places 1;law or 1=1;", 2, 13);
+        bad("places 1;law 1=1 1=1;", 2, 17);
+        bad("places 1;law [1=1 and];", 2, 21);
+        bad("places 1;law []", 2, 14);
+        bad("places 1;law not;", 2, 16);
+        bad("places 1;law 1<2<3;", 2, 16);
+        bad("places 1;law 1=1]", 2, 16);
+        bad("places 1;law [1]=1;", 2, 15);
+    }
+
+    private static void sums() {
+        Kit.sentence("SUM: TERM { + TERM | - TERM }; TERM: ATOM { * ATOM }; ATOM: N, a, b, odda, oddb, evena, evenb, "
+            + "alike, wall, ( SUM ).");
+        says("9-3-2=4", true);
+        says("9-(3-2)=8", true);
+        says("2+3*4=14", true);
+        says("3*4+2=14", true);
+        says("2*3*4-1-1=22", true);
+        says("(2+3)*(4-1)=15", true);
+        says("3-4<0", true);
+        says("3-4+1=0", true);
+        says("a=3", true);
+        says("b=4", true);
+        says("odda=1 and oddb=0 and evena=0 and evenb=1 and alike=1 and wall=0", true);
+        says("a*b-a=9", true);
+        bad("places 1;law 1+=1;", 2, 15);
+        bad("places 1;law +1=1;", 2, 13);
+        bad("places 1;law -1=1;", 2, 13);
+        bad("places 1;law 1*-1=1;", 2, 15);
+        bad("places 1;law ()=1;", 2, 14);
+        bad("places 1;law (1=1);", 2, 15);
+        bad("places 1;law (1;", 2, 15);
+        bad("places 1;law 1)=1;", 2, 14);
+        bad("places 1;law a b=1;", 2, 15);
+        bad("places 1;law c=1;", 2, 13);
+        bad("places 1;law odd=1;", 2, 13);
     }
 
     private static void places() {
@@ -333,6 +470,14 @@ final class BoundsTextTest {
         Kit.due("zero", x.thing(0, 5) + x.thing(0, 6), 0);
         Kit.due("law", x.clashes(), 0);
         Kit.due("law the other way", x.change(0, 3) + x.clashes(), 4);
+        String[] zeros = {"even", "odd", "both", "neither"};
+        int[] want = {1, 10, 11, 0};
+        for (String first : zeros) {
+            for (int i = 0; i < 4; i++) {
+                OddTouch y = Kit.town("places 1;zero " + first + ";thing 0 count 0;zero " + zeros[i] + ";");
+                Kit.due(first + ", then " + zeros[i], 10 * y.thing(0, 5) + y.thing(0, 6), want[i]);
+            }
+        }
     }
 
     private static void depth() {
@@ -360,6 +505,17 @@ final class BoundsTextTest {
         OddTouch x = Kit.town("places 2;touch 0 1;thing 0 count 1;thing 1 count 2;"
             + "law not not not not not not a=b;");
         Kit.due("six are as none", x.clashes(), 1);
+        for (int last = 1; last <= 2; last++) {
+            String truth = "1+1*1=" + last;
+            String sum = "1+1*1";
+            for (int i = 0; i < 6; i++) {
+                truth = "0=1 or 1=1 and [" + truth + "]";
+                sum = "1+1*(" + sum + ")";
+            }
+            says(truth, last == 2);
+            says("0=1 or 1=1 and " + (last + 5) + "=" + sum, false);
+            says("0=1 or 1=1 and " + (last + 6) + "=" + sum, last == 2);
+        }
     }
 
     // ---- tokens and faults

@@ -17,6 +17,7 @@ final class BoundsWavesTest {
         pleasureThrows();
         atRest();
         drift();
+        driftsInOrder();
         twentyRounds();
         Kit.end("BoundsWavesTest");
     }
@@ -34,6 +35,9 @@ final class BoundsWavesTest {
             + "IllegalArgumentException: another what.");
         waves(THREE, 1, 5, 0);
         waves("places 1;", 0, 0, 0);
+        OddTouch later = Kit.town(THREE);
+        later.days(2);
+        Kit.due("minutes from now on", later.wave(1), 5);
         for (int what : new int[] {-1, 3, Integer.MIN_VALUE, Integer.MAX_VALUE}) {
             Kit.refused(() -> Kit.town(THREE), "what " + what, x -> x.wave(what), Kit.ARGUMENT);
             Kit.refused(OddTouch::new, "nobody, what " + what, x -> x.wave(what), Kit.ARGUMENT);
@@ -64,6 +68,7 @@ final class BoundsWavesTest {
         String near = "places 5;touch 0 1;touch 1 4;touch 4 2;touch 1 3;thing 0 count 1 stays;thing 1 count 1;";
         waves(near, 1, 1, 0);
         lies(near, 1, 3);
+        lies("places 3;touch 2 1;touch 1 0;thing 2 count 1 stays;thing 1 count 1;", 1, 0);
     }
 
     /** Two in the middle of a line 2 0 1 3, any two clashing: who moves. */
@@ -115,6 +120,22 @@ final class BoundsWavesTest {
             pairs.append("thing " + t + " count 1 kind " + t / 2 + ";");
         }
         waves(pairs.toString(), 4, 4, 0);
+        lastTwo(2, 7);
+        lastTwo(6, 7);
+        lastTwo(0, 7);
+    }
+
+    /** Of eight only these two clash: one of them goes to place 9, where the other stays. */
+    private static void lastTwo(int t, int u) {
+        for (int who : new int[] {t, u}) {
+            StringBuilder s = new StringBuilder("places 10;touch " + t + " " + u + ";touch " + who + " 9;");
+            for (int i = 0; i < 8; i++) {
+                String count = i == t || i == u ? "1" : "2";
+                s.append("thing " + i + " count " + count + (i == t + u - who ? " stays;" : ";"));
+            }
+            waves(s.toString(), 1, 1, 0);
+            lies(s.toString(), who, 9);
+        }
     }
 
     private static void goWave() {
@@ -169,6 +190,16 @@ final class BoundsWavesTest {
             + "law a>90;", 1, 0, 1);
         calmIs(TWO + "thing 0 count 4;thing 1 count 1;event 9 thing 0 less 9;event 5 thing 0 more 9;"
             + "law a<9;", 1, 0, 1);
+        calmIs(TWO + "thing 0 count 95;thing 1 count 1;event 9 thing 0 more 9;event 5 thing 0 less 9;"
+            + "law a=99 or a=95;", 1, 0, 1);
+        calmIs(TWO + "thing 0 count 4;thing 1 count 1;event 9 thing 0 less 9;event 5 thing 0 more 9;"
+            + "law a=0 or a=4;", 1, 0, 1);
+        calmIs("places 3;touch 0 1;touch 1 2;thing 0 count 2;thing 1 count 2;thing 2 count 1;"
+            + "event 0 thing 0 more 1;", 0, 0);
+        calmIs("places 2;touch 0 1 wall;thing 0 count 2;thing 1 count 2;event 0 thing 0 more 1;law wall=1;", 0, 0);
+        calmIs("places 2;touch 0 1 wall;thing 0 count 2;thing 1 count 2;event 0 thing 0 more 1;law wall=0;", 1, 0);
+        calmIs(TWO + "thing 0 count 2 kind 1;thing 1 count 2;event 0 thing 0 more 1;law alike=0;", 0, 0);
+        calmIs(TWO + "thing 0 count 2;thing 1 count 2;event 0 thing 0 more 1;law alike=0;", 1, 0);
         calmIs(TWO + "thing 0 count 0;thing 1 count 0;event 5 thing 0 more 1;event 4 thing 1 more 1;"
             + "event 3 thing 0 more 1;event 2 thing 1 more 1;event 1 thing 0 more 1;event 0 thing 0 more 1;",
             0, 0, 2, 1, 3, 4, 5);
@@ -291,6 +322,28 @@ final class BoundsWavesTest {
             + "thing 0 count 2 stays;");
         Kit.due("one move", like.drift(), 1);
         Kit.due("the first of like ones", like.thing(0, 0), 2);
+    }
+
+    private static void driftsInOrder() {
+        Kit.sentence("A DRIFT: THING by THING, from 0 on");
+        String text = "places 4;touch 0 1;touch 1 2;touch 2 3;";
+        OddTouch first = Kit.town(text + "thing 0 count 2;thing 3 count 2;");
+        Kit.due("the first one moves", first.drift(), 1);
+        Kit.due("where", first.thing(0, 0) * 10 + first.thing(1, 0), 23);
+        OddTouch last = Kit.town(text + "thing 3 count 2;thing 0 count 2;");
+        Kit.due("the first one moves, the other way", last.drift(), 1);
+        Kit.due("where, the other way", last.thing(0, 0) * 10 + last.thing(1, 0), 10);
+        Kit.sentence("of the first two that CLASH (by their numbers) one MOVES");
+        String two = "places 8;touch 0 1;touch 1 2;touch 4 5;touch 5 6;";
+        OddTouch x = Kit.town(two + "thing 4 count 1;thing 0 count 1;thing 5 count 1 slow 2;thing 1 count 1 slow 3;");
+        Kit.due("0 with 2, then 1 with 3", x.goWave(), 2);
+        Kit.due("the pain by that order", x.count(6), 2 * 2 + 3);
+        OddTouch y = Kit.town(two + "thing 4 count 1;thing 0 count 1;thing 1 count 1 slow 3;thing 5 count 1 slow 2;");
+        Kit.due("0 with 3, then 1 with 2", y.goWave(), 2);
+        Kit.due("the pain by that order", y.count(6), 2 * 2 + 3);
+        OddTouch z = Kit.town(two + "thing 0 count 1;thing 4 count 1;thing 1 count 1 slow 3;thing 5 count 1 slow 2;");
+        Kit.due("0 with 2 of the other two", z.goWave(), 2);
+        Kit.due("the pain by the other order", z.count(6), 3 * 2 + 2);
     }
 
     /** Counts are the numbers of the things: two of them, as 10 times the lesser and the other. */
