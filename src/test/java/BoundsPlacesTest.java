@@ -120,6 +120,10 @@ final class BoundsPlacesTest {
         String walls = "places 3;touch 0 1 wall;touch 1 2;thing 0 count 1;thing 1 count 1;";
         Kit.asked(() -> Kit.town(walls + "law wall=0;"), "not through a wall", x -> x.placings(), 4);
         Kit.asked(() -> Kit.town(walls + "law wall=1;"), "through a wall alone", x -> x.placings(), 4);
+        Kit.asked(() -> Kit.town("places 2;touch 0 1 wall;thing 0 count 1;thing 1 count 1;law wall=0;"),
+            "nothing but a wall", x -> x.placings(), 0);
+        Kit.asked(() -> Kit.town("places 2;touch 0 1 wall;thing 0 count 1;thing 1 count 1;law wall=1;"),
+            "nothing but a wall that helps", x -> x.placings(), 2);
         Kit.asked(() -> Kit.town(walls + "law wall=0;"), "the first", x -> x.placing(0, 1), 2);
         Kit.asked(() -> Kit.town(walls + "law wall=1;"), "the first, walled", x -> x.placing(0, 1), 1);
         Kit.Maker mixed = () -> Kit.town("places 4;touch 0 1;touch 1 2;thing 0 count 2;thing 1 count 1;thing 2 count 1;");

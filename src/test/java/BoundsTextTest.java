@@ -190,13 +190,16 @@ final class BoundsTextTest {
             + "event 800 thing 2 more 1;zero both;law a<b or wall=1;",
             "places 6;touch 0 1;touch 1 2;touch 3 2;touch 4 3;thing 0 count 0;thing 1 count 5;thing 4 count 95;"
             + "event 7 thing 2 more 9;event 7 thing 2 less 9;event 3 thing 0 more 2;",
-            "places 3;thing 2 count 0;thing 1 count 0;zero neither;"};
+            "places 3;thing 2 count 0;thing 1 count 0;zero neither;",
+            "places 3;touch 0 1;touch 1 2;thing 0 count 1;thing 1 count 1;thing 2 count 1;law not 1=1;",
+            "places 2;touch 0 1;thing 1 count 2;thing 0 count 2;event 0 thing 0 more 1;law 1=1;",
+            "places 2;touch 0 1;thing 1 count 2;event 0 thing 0 more 1;law 1=2;"};
         for (String first : texts) {
             for (String second : texts) {
                 for (String between : new String[] {"", second.replace("places", "places 3;zero"), second + "!"}) {
                     OddTouch x = Kit.town(first);
                     x.days(3);
-                    x.mend();
+                    Kit.outcome(() -> x.mend());
                     x.goWave();
                     x.drift();
                     x.placings();
@@ -211,6 +214,13 @@ final class BoundsTextTest {
                     OddTouch alone = Kit.town(second);
                     Kit.due("days of " + second, y.days(2), alone.days(2));
                     Kit.due("a mending of " + second, y.mending(0), alone.mending(0));
+                    Kit.due("placings of " + second, y.placings(), alone.placings());
+                    Kit.due("flips of " + second, y.flips(1), alone.flips(1));
+                    Kit.due("calm of " + second, y.calm(0), alone.calm(0));
+                    Kit.due("the odd ring of " + second, y.oddRing(1), alone.oddRing(1));
+                    Kit.due("sides of " + second, y.sides(), alone.sides());
+                    Kit.due("a wave of " + second, y.goWave(), alone.goWave());
+                    Kit.due("a drift of " + second, y.drift(), alone.drift());
                     Kit.due("then, " + second, Kit.restOf(y), Kit.restOf(alone));
                 }
             }

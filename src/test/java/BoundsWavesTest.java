@@ -196,6 +196,11 @@ final class BoundsWavesTest {
             + "law a=0 or a=4;", 1, 0, 1);
         calmIs("places 3;touch 0 1;touch 1 2;thing 0 count 2;thing 1 count 2;thing 2 count 1;"
             + "event 0 thing 0 more 1;", 0, 0);
+        StringBuilder eight = new StringBuilder("places 8;");
+        for (int t = 0; t < 8; t++) {
+            eight.append(t == 0 ? "" : "touch " + (t - 1) + " " + t + ";").append("thing " + t + " count 2;");
+        }
+        calmIs(eight + "event 0 thing 7 more 1;event 0 thing 6 more 1;event 0 thing 0 more 1;", 1, 0, 2, 1);
         calmIs("places 2;touch 0 1 wall;thing 0 count 2;thing 1 count 2;event 0 thing 0 more 1;law wall=1;", 0, 0);
         calmIs("places 2;touch 0 1 wall;thing 0 count 2;thing 1 count 2;event 0 thing 0 more 1;law wall=0;", 1, 0);
         calmIs(TWO + "thing 0 count 2 kind 1;thing 1 count 2;event 0 thing 0 more 1;law alike=0;", 0, 0);

@@ -81,14 +81,16 @@ final class OracleTest {
         return sum(depth) + "=<>".charAt(below(3)) + sum(depth);
     }
 
+    /** Small, large, or as full as a town can be. */
     private String drawTown(boolean large) {
-        int places = large ? 7 + below(4) : 1 + below(7);
+        boolean full = large && oneIn(3);
+        int places = full ? 10 : large ? 7 + below(4) : 1 + below(7);
         StringBuilder s = new StringBuilder("places " + places + ";");
         boolean[] taken = new boolean[places];
         boolean[][] joined = new boolean[places][places];
         int touches = below(Math.min(20, 2 * places) + 1);
         int told = 0;
-        for (int i = 0; i < touches; i++) {
+        for (int i = 0; full ? told < 20 : i < touches; i++) {
             int p = below(places);
             int q = below(places);
             if (p != q && !joined[p][q] && told < 20) {
@@ -100,7 +102,7 @@ final class OracleTest {
         }
         int things = large ? 5 + below(4) : below(6);
         int laid = 0;
-        for (int i = 0; i < things; i++) {
+        for (int i = 0; full ? laid < 8 : i < things; i++) {
             int p = below(places);
             if (!taken[p]) {
                 taken[p] = true;
@@ -112,7 +114,7 @@ final class OracleTest {
                 s.append(oneIn(6) ? " stays;" : ";");
             }
         }
-        int events = laid == 0 ? 0 : below(large ? 7 : 5);
+        int events = full ? 6 : laid == 0 ? 0 : below(large ? 7 : 5);
         for (int i = 0; i < events; i++) {
             s.append("event " + (oneIn(4) ? 500 : below(1000)) + " thing " + below(laid));
             s.append((oneIn(2) ? " more " : " less ") + (1 + below(9)) + ";");
