@@ -17,6 +17,7 @@ final class BoundsDeedsTest {
         aDay();
         undo();
         whatIsADeed();
+        allOfIt();
         eldest();
         toldDeeds();
         judge();
@@ -285,6 +286,43 @@ final class BoundsDeedsTest {
                 Kit.due("as at first, " + i + " " + k, Kit.stateOf(x), first);
             }
         }
+    }
+
+    private static OddTouch full() {
+        OddTouch x = Kit.town(line().replace("touch 6 7;", "touch 6 7 wall;") + "law wall=0 and a+b<150;");
+        x.days(3);
+        x.change(7, 40);
+        return x;
+    }
+
+    /** Of eight things nothing is lost: places, counts, whom they clash with, time, pain. */
+    private static void allOfIt() {
+        Kit.sentence("each can be UNDONE");
+        OddTouch x = full();
+        x.image(0);
+        x.days(2);
+        x.change(7, 9);
+        x.change(0, -9);
+        x.move(7, 9);
+        x.undo(5);
+        OddTouch y = full();
+        y.image(0);
+        Kit.due("eight, undone", Kit.restOf(x), Kit.restOf(y));
+        OddTouch z = full();
+        z.image(0);
+        z.change(6, 9);
+        z.move(0, 9);
+        z.restore(0);
+        y = full();
+        y.image(0);
+        Kit.due("eight, restored", Kit.restOf(z), Kit.restOf(y));
+        OddTouch seven = full();
+        seven.move(7, 8);
+        seven.undo(1);
+        Kit.due("whom the last one clashes with", seven.thing(7, 7), 1 << 6);
+        Kit.due("through a wall", seven.clash(7, 6, true), true);
+        Kit.due("without one", seven.clash(7, 6, false), false);
+        Kit.due("pain", seven.count(6), 3000);
     }
 
     private static void eldest() {

@@ -145,7 +145,7 @@ final class Kit {
         StringBuilder all = new StringBuilder("|law ");
         for (int t = 0; t < x.count(2); t++) {
             for (int u = t + 1; u < x.count(2); u++) {
-                all.append(x.clash(t, u, false) ? 1 : 0).append(x.clash(t, u, true) ? 1 : 0);
+                all.append(x.clash(t, u, false) ? 1 : 0).append(x.clash(u, t, true) ? 1 : 0);
             }
         }
         return all.toString();
