@@ -36,7 +36,7 @@ final class BoundsTraysTest {
     // ---- trays
 
     private static void missing() {
-        Kit.sentence("TRAYS 0 to 3 are MISSING at first");
+        Kit.sentence("TRAYS 0 to 3 are MISSING at first, or rows");
         for (int i = 0; i < 4; i++) {
             int tray = i;
             Kit.Use[] uses = {x -> x.write(tray, 0, 1), x -> x.pour(tray), x -> x.judge(tray, 0),

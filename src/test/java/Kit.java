@@ -59,7 +59,7 @@ final class Kit {
         return x;
     }
 
-    /** What is checked from here on is for these words, which must stand in the document. */
+    /** What is checked from here on is for these words, which must stand in the document; "": for none. */
     static void sentence(String words) {
         if (document == null) {
             try {
@@ -70,7 +70,7 @@ final class Kit {
         }
         quoted = "";
         due("the document says: " + words, document.contains(words), true);
-        quoted = "\"" + words + "\": ";
+        quoted = words.isEmpty() ? "" : "\"" + words + "\": ";
     }
 
     static void due(String label, long got, long want) {

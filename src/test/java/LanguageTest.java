@@ -13,24 +13,16 @@ import java.util.HashSet;
 import java.util.IdentityHashMap;
 import java.util.Map;
 import java.util.Set;
-import java.util.TreeSet;
 import java.util.regex.Matcher;
 import java.util.regex.Pattern;
 
 /** The face, LANGUAGE.md as far as a machine sees it, and the room that a run takes. */
 final class LanguageTest {
 
-    private static final String FACE = "atRest() bestRow(int,boolean,int) calm(int) change(int,int) "
-        + "clash(int,int,boolean) clashes() count(int) days(int) drift() event(int,int) fault(int) "
-        + "feed(int,int,int,int,int) firstClash() flips(int) goWave() goats(int,boolean) image(int) "
-        + "judge(int,int) mend() mending(int) move(int,int) oddRing(int) perform(int) "
-        + "place(int,int) placing(int,int) placings() pleasure(int,int) pour(int) restore(int) "
-        + "season(int,int) seats(int,int,int) seen(int) sides() steps(int,int) sure(int,int) "
-        + "thing(int,int) town(int) tray(int,int,int) undo(int) wave(int) why(int,int) "
-        + "write(int,int,long)";
-
     public static void main(String[] args) throws IOException {
         face();
+        faceAsTold();
+        sections();
         membersInside();
         source();
         callDepths();
@@ -43,21 +35,11 @@ final class LanguageTest {
         Class<?> c = OddTouch.class;
         Kit.due("public and final", Modifier.isPublic(c.getModifiers())
             && Modifier.isFinal(c.getModifiers()), true);
-        Set<String> open = new TreeSet<>();
         for (Method m : c.getDeclaredMethods()) {
             boolean isPublic = Modifier.isPublic(m.getModifiers());
             Kit.due(m + " is public or private", isPublic || Modifier.isPrivate(m.getModifiers()), true);
-            if (isPublic) {
-                StringBuilder types = new StringBuilder();
-                for (Class<?> t : m.getParameterTypes()) {
-                    types.append(types.length() == 0 ? "" : ",").append(t.getName());
-                }
-                open.add(m.getName() + "(" + types + ")");
-                Kit.due(m + " is static", Modifier.isStatic(m.getModifiers()), false);
-            }
+            Kit.due(m + " is static", isPublic && Modifier.isStatic(m.getModifiers()), false);
         }
-        Kit.due("the public methods", String.join(" ", open),
-            String.join(" ", new TreeSet<>(Arrays.asList(FACE.split(" ")))));
         for (Field f : c.getDeclaredFields()) {
             boolean isNone = f.getName().equals("NONE");
             Kit.due(f + " is private", Modifier.isPrivate(f.getModifiers()), !isNone);
@@ -65,6 +47,53 @@ final class LanguageTest {
         Constructor<?>[] all = c.getDeclaredConstructors();
         Kit.due("one constructor", all.length, 1);
         Kit.due("without arguments", all[0].getParameterCount(), 0);
+    }
+
+    /** Each member that the document shows, its throws too, in its order; and no other one. */
+    private static void faceAsTold() throws IOException {
+        String document = Files.readString(Path.of("../shared/DOC.md"));
+        int begin = document.indexOf("```java") + 7;
+        String shown = document.substring(begin, document.indexOf("```", begin));
+        String code = Files.readString(Path.of("src/main/java/OddTouch.java")).replaceAll("\\s+", " ");
+        int at = 0;
+        int members = 0;
+        for (String line : shown.split("\n")) {
+            String member = line.trim();
+            if (!member.isEmpty() && !member.equals("}")) {
+                String due = member.replaceAll("\\);$", ") {").replaceAll("(throws .*);$", "$1 {");
+                int found = code.indexOf(due, at);
+                Kit.due("stands behind the one ahead of it: " + due, found >= 0, true);
+                at = Math.max(at, found);
+                members += member.startsWith("public ") ? 1 : 0;
+            }
+        }
+        Matcher open = Pattern.compile("\\bpublic\\b").matcher(code);
+        int opened = 0;
+        while (open.find()) {
+            opened++;
+        }
+        Kit.due("so many are public", opened, members);
+    }
+
+    /** "Ahead of the calls .. the interface says: ---- ..". */
+    private static void sections() throws IOException {
+        String document = Files.readString(Path.of("../shared/DOC.md"));
+        String code = Files.readString(Path.of("src/main/java/OddTouch.java"));
+        Matcher told = Pattern.compile("Ahead of the calls (.*) the interface says: (---- .*)\\.").matcher(document);
+        int sections = 0;
+        while (told.find()) {
+            sections++;
+            int head = code.indexOf("    // " + told.group(2) + "\n");
+            Kit.due("there is a part " + told.group(2), head >= 0, true);
+            int next = code.indexOf("    // ----", head + 1);
+            Matcher name = Pattern.compile("`(\\w+)`").matcher(told.group(1));
+            while (name.find()) {
+                int call = Pattern.compile("    public \\w+ " + name.group(1) + "\\(").matcher(code)
+                    .results().findFirst().map(r -> r.start()).orElse(-1);
+                Kit.due(name.group(1) + " is in " + told.group(2), call > head && (next < 0 || call < next), true);
+            }
+        }
+        Kit.due("parts of the face", sections, 9);
     }
 
     private static void membersInside() {
