@@ -1,6 +1,7 @@
 import java.io.IOException;
 import java.lang.reflect.InvocationTargetException;
 import java.lang.reflect.Method;
+import java.lang.reflect.Modifier;
 import java.nio.file.Files;
 import java.nio.file.Path;
 import java.util.regex.Matcher;
@@ -29,7 +30,7 @@ final class ReadmeTest {
                 Kit.due(line, answer(x, call.group(1), call.group(2)), want);
             }
         }
-        Kit.due("calls were found", calls > 60, true);
+        Kit.due("calls were found", calls > 50, true);
         everyCallIsNamed(readme);
         Kit.end("ReadmeTest");
     }
@@ -66,11 +67,16 @@ final class ReadmeTest {
         return type == long.class ? (Object) Long.valueOf(word) : (Object) Integer.valueOf(word);
     }
 
+    /** In the table of calls, each with as many arguments as it takes. */
     private static void everyCallIsNamed(String readme) {
+        String table = readme.substring(readme.indexOf("### Every call"), readme.indexOf("## Tests"));
         for (Method m : OddTouch.class.getDeclaredMethods()) {
-            if (java.lang.reflect.Modifier.isPublic(m.getModifiers())) {
-                Kit.due("README.md tells of " + m.getName(),
-                    Pattern.compile("\\b" + m.getName() + "\\b").matcher(readme).find(), true);
+            if (Modifier.isPublic(m.getModifiers())) {
+                Matcher row = Pattern.compile("`" + m.getName() + "\\(([^)]*)\\)`").matcher(table);
+                Kit.due("the table tells of " + m.getName(), row.find(), true);
+                String told = row.group(1);
+                Kit.due(m.getName() + " takes", told.isEmpty() ? 0 : told.split(", ").length,
+                    m.getParameterCount());
             }
         }
     }
