@@ -103,6 +103,11 @@ final class LanguageTest {
                 names.add(m.getName());
             }
         }
+        for (Method m : OddTouch.class.getDeclaredMethods()) {
+            boolean isPrivate = Modifier.isPrivate(m.getModifiers());
+            Kit.due(m + " bears no public name", isPrivate && names.contains(m.getName()), false);
+            Kit.due(m + " takes seven at most", m.getParameterCount() <= 7, true);
+        }
         Class<?>[] inside = OddTouch.class.getDeclaredClasses();
         Kit.due("some twelve classes", inside.length <= 12, true);
         for (Class<?> c : inside) {
@@ -126,12 +131,18 @@ final class LanguageTest {
         String code = text.replaceAll("(?s)/\\*.*?\\*/", "").replaceAll("//[^\n]*", "")
             .replaceAll("\"[^\"\n]*\"", "\"\"");
         String[] barred = {"->", "::", "\\btry\\b", "\\bcatch\\b", "\\bfinally\\b", "\\bassert\\b",
-            "\\bsynchronized\\b", "Exact\\(", "\\bsystem\\.(?!arraycopy)", "\\bThread\\b",
+            "\\bsynchronized\\b", "Exact\\(", "\\bSystem\\.(?!arraycopy)", "\\bThread\\b",
             "\\bRandom\\b", "\\bpackage\\b", "\\bstatic\\s*\\{", "getMessage", "\\bdouble\\b",
             "\\bfloat\\b", "\\bvar\\b", "\\.toString\\(", "\\.hashCode\\(", "\\.equals\\("};
         for (String b : barred) {
             Kit.due("no " + b, Pattern.compile(b).matcher(code).find(), false);
         }
+        Matcher library = Pattern.compile("\\b(Integer|Long|Math|Arrays|System|String|List)\\.\\w+").matcher(code);
+        while (library.find()) {
+            Kit.due(library.group(), library.group().matches("Integer\\.(bitCount|numberOfTrailingZeros)"
+                + "|Math\\.(min|max|floorMod)|System\\.arraycopy"), true);
+        }
+        Kit.due("no rows of rows", code.contains("[][]"), false);
         Matcher imports = Pattern.compile("import ([\\w.]+);").matcher(code);
         while (imports.find()) {
             Kit.due("imports", imports.group(1), "java.util.NoSuchElementException");
